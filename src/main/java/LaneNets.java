@@ -269,7 +269,7 @@ public final class LaneNets {
     // ---- rows of noughts and ones
 
     public int out(int row) {
-        if (row < 0 || row >= 1 << net.lanes) {
+        if (row < 0 || row >= (1 << net.lanes)) {
             return finding(BEYOND);
         }
         rows.start(net.lanes, row / Rows.IN_BLOCK);
@@ -571,7 +571,7 @@ public final class LaneNets {
     }
 
     private static boolean isIn(long set, int i) {
-        return (set >>> i & 1) != 0;
+        return ((set >>> i) & 1) != 0;
     }
 
     private static boolean isUnder(int kind, int above) {
@@ -665,7 +665,7 @@ public final class LaneNets {
 
     /** Lanes and a row of comparers; a net without lanes is none. */
     private static final class Net {
-        private static final int LANE_BITS = 7;
+        private static final int PART = 7;
         private static final int LOW_SHIFT = 3;
         private static final int HIGH_SHIFT = 6;
         private static final int SWITCH_BIT = 512;
@@ -688,15 +688,15 @@ public final class LaneNets {
         }
 
         int kind(int i) {
-            return comparers[i] & LANE_BITS;
+            return comparers[i] & PART;
         }
 
         int low(int i) {
-            return comparers[i] >> LOW_SHIFT & LANE_BITS;
+            return (comparers[i] >> LOW_SHIFT) & PART;
         }
 
         int high(int i) {
-            return comparers[i] >> HIGH_SHIFT & LANE_BITS;
+            return (comparers[i] >> HIGH_SHIFT) & PART;
         }
 
         int switchOf(int i) {
@@ -724,12 +724,12 @@ public final class LaneNets {
 
         void write(int i, int kind, int a, int b) {
             int on = kind == GATE ? SWITCH_BIT : 0;
-            comparers[i] = kind | a << LOW_SHIFT | b << HIGH_SHIFT | on;
+            comparers[i] = kind | (a << LOW_SHIFT) | (b << HIGH_SHIFT) | on;
         }
 
         void move(int i, int a, int b) {
             int on = comparers[i] & SWITCH_BIT;
-            comparers[i] = kind(i) | a << LOW_SHIFT | b << HIGH_SHIFT | on;
+            comparers[i] = kind(i) | (a << LOW_SHIFT) | (b << HIGH_SHIFT) | on;
         }
 
         void setSwitch(int i, boolean on) {
@@ -871,7 +871,7 @@ public final class LaneNets {
         private long all = 0;
 
         static int blocks(int lanes) {
-            return lanes > LANES_IN_BLOCK ? 1 << lanes - LANES_IN_BLOCK : 1;
+            return lanes > LANES_IN_BLOCK ? 1 << (lanes - LANES_IN_BLOCK) : 1;
         }
 
         static int leastOf(long set, int block) {
@@ -889,7 +889,7 @@ public final class LaneNets {
             if (lane < LANES_IN_BLOCK) {
                 return FIRST_COLUMNS[lane];
             }
-            return (block >> lane - LANES_IN_BLOCK & 1) != 0 ? -1L : 0L;
+            return ((block >> (lane - LANES_IN_BLOCK)) & 1) != 0 ? -1L : 0L;
         }
 
         /** The rows of which a comparer that acts as of a kind changes lanes of two loads. */
@@ -939,7 +939,7 @@ public final class LaneNets {
         int numberOf(int row, int lanes) {
             int number = 0;
             for (int lane = 0; lane < lanes; lane++) {
-                number |= (int) (columns[lane] >>> row & 1) << lane;
+                number |= (int) ((columns[lane] >>> row) & 1) << lane;
             }
             return number;
         }
@@ -948,7 +948,7 @@ public final class LaneNets {
         long packed(int lanes) {
             long packed = 0;
             for (int lane = 0; lane < lanes && lane < MOST_LANES_SEARCHED; lane++) {
-                packed |= columns[lane] << lane * Completion.COLUMN_BITS;
+                packed |= columns[lane] << (lane * Completion.COLUMN_BITS);
             }
             return packed;
         }
@@ -998,12 +998,12 @@ public final class LaneNets {
         }
 
         private static long column(long columns, int lane) {
-            return columns >>> lane * COLUMN_BITS & COLUMN;
+            return (columns >>> (lane * COLUMN_BITS)) & COLUMN;
         }
 
         private static long compared(long columns, int a, int b) {
             long changing = column(columns, a) & ~column(columns, b);
-            return columns ^ changing << a * COLUMN_BITS ^ changing << b * COLUMN_BITS;
+            return columns ^ (changing << (a * COLUMN_BITS)) ^ (changing << (b * COLUMN_BITS));
         }
 
         private static boolean areRising(long columns, int lanes) {

@@ -110,6 +110,7 @@ public final class PromiseTest {
         due("comparer(0, 1, 1) of 40", SIZE, x.comparer(0, 1, 1));
         due("comparer(0, 1, 8) of 40", BEYOND, x.comparer(0, 1, 8));
         due("told(1)", 40, x.told(1));
+        due("told(3)", 12, x.told(3));
     }
 
     private static void cut() {
@@ -157,6 +158,7 @@ public final class PromiseTest {
         for (int i = 1; i < 5; i++) {
             due("turnSwitch(" + i + ", true)", KIND, x.turnSwitch(i, true));
         }
+        due("told(3)", 6, x.told(3));
         due("turnSwitch(0, true)", 1, x.turnSwitch(0, true));
         due("turnSwitch(0, false)", 1, x.turnSwitch(0, false));
         due("of(0, 4)", 0, x.of(0, 4));
@@ -202,6 +204,7 @@ public final class PromiseTest {
         due("of(-1, 0)", BEYOND, x.of(-1, 0));
         due("of(0, 5)", BEYOND, x.of(0, 5));
         due("of(0, -1)", BEYOND, x.of(0, -1));
+        due("told(3)", 4, x.told(3));
     }
 
     private static void rounds() {
@@ -222,9 +225,11 @@ public final class PromiseTest {
         due("crate(0, 1, 13)", BEYOND, x.crate(0, 1, 13));
         due("crate(0, 0, 13)", BEYOND, x.crate(0, 0, 13));
         due("rises(0)", MISSING, x.rises(0));
+        due("told(3)", 9, x.told(3));
         for (int kind = 1; kind < 8; kind++) {
             due("crate(5, " + kind + ", 12)", 12, x.crate(5, kind, 12));
             dueLoads(x, 5, 0, 0, 0, 0, 0, 0, 0, 0, 0, 0, 0, 0);
+            x.put(5, 0, 1);
             x.put(5, 11, 1);
         }
         due("crate(5, 0, 99)", BEYOND, x.crate(5, 0, 99));
@@ -314,6 +319,7 @@ public final class PromiseTest {
         due("run(1)", MISSING, x.run(1));
         x.crate(1, 4, 2);
         due("run(1)", SIZE, x.run(1));
+        due("told(3)", 4, x.told(3));
         x.comparer(0, 0, 1);
         x.comparer(0, 1, 2);
         x.comparer(0, 0, 1);
@@ -519,6 +525,9 @@ public final class PromiseTest {
         due("idle(2)", 0, eight.idle(2));
         due("idle(3)", 1, eight.idle(3));
         due("told(1)", 4, eight.told(1));
+        LaneNets back = netOf(2, 1, 0, 1, 1, 0, 1);
+        due("idle(0)", 0, back.idle(0));
+        due("idle(1)", 1, back.idle(1));
     }
 
     private static void drop() {
@@ -562,6 +571,20 @@ public final class PromiseTest {
         LaneNets swapped = netOf(2, 3, 0, 1, 0, 0, 1, 1, 0, 1);
         due("turn()", 2, swapped.turn());
         dueComparer(swapped, 1, 0, 0, 1, 0);
+        turnOfGates();
+    }
+
+    /** A GATE that is on moves its lanes as a COMPARER does, which the comparers behind it show. */
+    private static void turnOfGates() {
+        for (int kind = 0; kind < 5; kind += 4) {
+            LaneNets x = netOf(3, 3, 0, 1, kind, 0, 1, 0, 0, 2, 1, 1, 2, kind, 0, 1);
+            due("rounds()", 5, x.rounds());
+            due("turn()", 4, x.turn());
+            dueComparer(x, 0, 0, 0, 1, 0);
+            dueComparer(x, 1, 0, 0, 2, 0);
+            dueComparer(x, 2, 0, 1, 2, 0);
+            dueComparer(x, 3, 0, 0, 2, 0);
+        }
     }
 
     private static void mirror() {
@@ -610,6 +633,7 @@ public final class PromiseTest {
         }
         due("next(5)", NONE, x.next(5));
         due("next(-1)", NONE, x.next(-1));
+        due("told(3)", 2, x.told(3));
         x.lanes(3);
         due("next(0)", 1, x.next(0));
         due("next(1)", 2, x.next(1));
@@ -754,6 +778,7 @@ public final class PromiseTest {
         x.cut(36);
         due("follow(2)", FULL, x.follow(2));
         due("told(1)", 36, x.told(1));
+        due("told(3)", 2, x.told(3));
         x.cut(35);
         due("follow(2)", 40, x.follow(2));
         x.lanes(3);
@@ -791,6 +816,7 @@ public final class PromiseTest {
         }
         due("tell(0)", FULL, x.tell(0));
         due("told(2)", 80, x.told(2));
+        due("told(3)", 1, x.told(3));
         due("would()", BEYOND, x.would());
         due("told(2)", 0, x.told(2));
         due("tell(0)", 1, x.tell(0));
@@ -951,6 +977,51 @@ public final class PromiseTest {
         due("told(3)", answers.length + 2, x.told(3));
     }
 
+    /** Forty comparers on eight lanes and twelve loads: every call at its largest. */
+    private static void fullest() {
+        LaneNets x = bricks(8);
+        while (x.told(1) < 40) {
+            x.comparer(4, 3, 4);
+        }
+        x.crate(5, 7, 12);
+        for (int i = 0; i < 12; i++) {
+            x.put(5, i, Double.doubleToLongBits(-i));
+        }
+        due("run(5)", 28, x.run(5));
+        due("order(5, 0, 7)", 9, x.order(5, 0, 7));
+        due("rises(5)", 0, x.rises(5));
+        due("copy(5, 0, 5, 0, 12)", 12, x.copy(5, 0, 5, 0, 12));
+        due("of(39, 3)", 20, x.of(39, 3));
+        due("rounds()", 20, x.rounds());
+        due("sorts()", 1, x.sorts());
+        due("fails(false)", 0, x.fails(false));
+        due("fails(true)", NONE, x.fails(true));
+        due("merges(7)", 1, x.merges(7));
+        due("out(255)", 255, x.out(255));
+        due("out(127)", 254, x.out(127));
+        due("idle(39)", 1, x.idle(39));
+        due("bears()", 0, x.bears());
+        due("weak(39)", NONE, x.weak(39));
+        due("keep(3)", 40, x.keep(3));
+        due("unlike(3)", LONG, x.unlike(3));
+        due("mirror()", 40, x.mirror());
+        due("would()", 1, x.would());
+        due("turn()", 40, x.turn());
+        due("unlike(3)", LONG, x.unlike(3));
+        due("drop()", 12, x.drop());
+        due("undo()", 24, x.undo());
+        due("bring(3)", 40, x.bring(3));
+        due("cut(40)", 0, x.cut(40));
+        due("missing()", LONG, x.missing());
+        LaneNets eightfold = sortingFour();
+        eightfold.keep(0);
+        while (eightfold.told(1) < 40) {
+            eightfold.follow(0);
+        }
+        due("bears()", 1, eightfold.bears());
+        due("missing()", 0, eightfold.missing());
+    }
+
     private static void net() {
         CHECKS.about("promise 1");
         newObject();
@@ -1040,6 +1111,8 @@ public final class PromiseTest {
         crates();
         rows();
         slots();
+        CHECKS.about("all at their most");
+        fullest();
         CHECKS.end();
     }
 }
