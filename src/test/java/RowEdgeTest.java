@@ -53,6 +53,7 @@ public final class RowEdgeTest {
         dropLeavesOthers();
         turnTaken();
         turnMovesLanes();
+        turnStartsAnew();
         turnSticks();
         mirror();
         missing();
@@ -334,11 +335,34 @@ public final class RowEdgeTest {
         LaneNets old = Edges.made(scene);
         LaneNets x = Edges.made(scene);
         due("turn()", 5, x.turn());
+        int[] outs = new int[16];
+        int[] turned = new int[16];
+        for (int row = 0; row < 16; row++) {
+            outs[row] = old.out(row);
+            turned[row] = x.out(row);
+        }
         int alike = 0;
         for (int m = 0; m < 256; m++) {
-            alike += alikeBy(m, old, x) ? 1 : 0;
+            alike += alikeBy(m, outs, turned) ? 1 : 0;
         }
         due("ways to see each row of the one in the other", 1, alike);
+    }
+
+    private static void turnStartsAnew() {
+        EDGES.sentence(23, "m(x) is x at first: whatever was asked or turned ahead of it");
+        LaneNets x = Edges.made(Scenes.netOf(8, 0, 0, 7, 0, 1, 6, 0, 2, 5, 0, 3, 4));
+        due("rounds()", 1, x.rounds());
+        due("turn() behind rounds()", 4, x.turn());
+        for (int a = 0; a < 4; a++) {
+            dueComparer(x, a, 0, a, 7 - a, 0);
+        }
+        Scenes.comparers(x, 3, 0, 7, 3, 1, 6, 3, 2, 5, 3, 3, 4);
+        due("of(7, 3)", 2, x.of(7, 3));
+        due("turn() behind of()", 4, x.turn());
+        due("turn() behind turn()", 4, x.turn());
+        for (int a = 0; a < 4; a++) {
+            dueComparer(x, a, 0, a, 7 - a, 0);
+        }
     }
 
     private static void dueTurned(String text, Edges.Scene scene, int lane) {
@@ -350,14 +374,14 @@ public final class RowEdgeTest {
         }
     }
 
-    private static boolean alikeBy(int m, LaneNets old, LaneNets x) {
-        for (int row = 0; row < 16; row++) {
-            int out = old.out(row);
+    /** Whether each row is the other net's with lane x on lane m(x), two bits of m for each x. */
+    private static boolean alikeBy(int m, int[] outs, int[] turned) {
+        for (int row = 0; row < outs.length; row++) {
             int moved = 0;
             for (int lane = 0; lane < 4; lane++) {
-                moved |= (out >> lane & 1) << (m >> 2 * lane & 3);
+                moved |= (outs[row] >> lane & 1) << (m >> 2 * lane & 3);
             }
-            if (moved != x.out(row) || Integer.bitCount(moved) != Integer.bitCount(out)) {
+            if (moved != turned[row]) {
                 return false;
             }
         }
