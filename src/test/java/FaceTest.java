@@ -41,7 +41,10 @@ public final class FaceTest {
         methods();
         othersArePrivate();
         nestedClasses();
-        words(withoutTexts(Files.readString(SOURCE)));
+        String source = Files.readString(SOURCE);
+        words(withoutTexts(source));
+        signs(source);
+        methodsAreShort(source);
         System.out.println(wrong == 0 ? "the face is as due" : wrong + " not as due");
         if (wrong != 0) {
             System.exit(1);
@@ -98,9 +101,13 @@ public final class FaceTest {
         Class<?>[] nested = LaneNets.class.getDeclaredClasses();
         due("at most twelve classes", nested.length < 12);
         fieldsOf(LaneNets.class);
+        typesOf(LaneNets.class);
         for (Class<?> one : nested) {
             due(one + " is static", Modifier.isStatic(one.getModifiers()));
+            due(one + " is not public or protected",
+                (one.getModifiers() & (Modifier.PUBLIC | Modifier.PROTECTED)) == 0);
             fieldsOf(one);
+            typesOf(one);
         }
     }
 
@@ -117,6 +124,53 @@ public final class FaceTest {
         for (Method method : one.getDeclaredMethods()) {
             due(method + " takes at most seven", method.getParameterCount() <= 7);
         }
+    }
+
+    /** Rule 5: constants, and arrays of int, long, char or byte. Rule 3: one dimension, own classes. */
+    private static void typesOf(Class<?> one) {
+        for (Field field : one.getDeclaredFields()) {
+            Class<?> type = field.getType();
+            Class<?> part = type.isArray() ? type.getComponentType() : type;
+            if (Modifier.isStatic(field.getModifiers())) {
+                due(field + " is a constant", part.isPrimitive() && part != float.class && part != double.class);
+            } else {
+                due(field + " is of a type that is allowed", isAllowed(type));
+            }
+        }
+        for (Method method : one.getDeclaredMethods()) {
+            due(method + " answers a type that is allowed", isAllowed(method.getReturnType()));
+            for (Class<?> type : method.getParameterTypes()) {
+                due(method + " takes a type that is allowed", isAllowed(type));
+            }
+        }
+    }
+
+    private static boolean isAllowed(Class<?> type) {
+        Class<?> part = type.isArray() ? type.getComponentType() : type;
+        return part.isPrimitive() || part.getNestHost() == LaneNets.class;
+    }
+
+    private static void signs(String source) {
+        for (int i = 0; i < source.length(); i++) {
+            char sign = source.charAt(i);
+            due("sign " + (int) sign + " at " + i, sign == '\n' || sign >= ' ' && sign < 127);
+        }
+    }
+
+    /** A method ends at the first closing brace that stands as far in as its head. */
+    private static void methodsAreShort(String source) {
+        Matcher heads = Pattern.compile("(?m)^((?: {4}){1,2})[a-zA-Z][\\w\\[\\] ]*\\([^)]*\\) \\{$").matcher(source);
+        int found = 0;
+        while (heads.find()) {
+            int end = source.indexOf("\n" + heads.group(1) + "}\n", heads.start());
+            if (heads.group().matches(" *(if|for|while|switch) .*")) {
+                continue;
+            }
+            found++;
+            long lines = source.substring(heads.start(), Math.max(end, heads.start())).lines().count() + 1;
+            due(heads.group().strip() + " is short", end > 0 && lines <= 60);
+        }
+        due("methods are found in the source", found >= FACE.length);
     }
 
     private static String withoutTexts(String source) {

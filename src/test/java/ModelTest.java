@@ -4,6 +4,8 @@ import java.util.Random;
 public final class ModelTest {
     private static final int RUNS = 1500;
     private static final int CALLS = 420;
+    /** An object is used for as many calls; CALLS leaves room for the acts that ask several. */
+    private static final int ALL_CALLS = 512;
     private static final long[] EDGES = {
         0, 1, -1, 127, 128, 255, 256, 32767, 32768, 65535, 65536, 2147483647L, -2147483648L, 2147483648L, 4294967295L,
         Long.MAX_VALUE, Long.MIN_VALUE, 0x7f800000L, 0x7f800001L, 0xff800000L, 0xff800001L, 0x7fc00000L, 0xffc00001L,
@@ -40,6 +42,7 @@ public final class ModelTest {
                     test.wholeState();
                 }
             }
+            test.lastCalls();
         }
         checks.end();
     }
@@ -112,6 +115,20 @@ public final class ModelTest {
                 }
             }
         }
+    }
+
+    /** One at a time, up to the very last call that an object is used for. */
+    private void lastCalls() {
+        while (calls < ALL_CALLS - 1) {
+            switch (random.nextInt(4)) {
+                case 0 -> addComparer();
+                case 1 -> due("undo()", plain.undo(), nets.undo());
+                case 2 -> due("mirror()", plain.mirror(), nets.mirror());
+                default -> judge();
+            }
+        }
+        due("told(3)", plain.told(3), nets.told(3));
+        checks.due("calls in all", ALL_CALLS, calls);
     }
 
     private void call() {
